@@ -229,7 +229,7 @@ public final class Justline {
         if (!Words.isCode(code) || places != NONE && !Words.isPlaces(code, places)) {
             throw new IllegalArgumentException("code or places");
         }
-        int before = breaks.told(code);
+        int before = breaks.placesAt(breaks.find(code));
         breaks.tell(code, places);
         isStale = true;
         return before;
@@ -294,14 +294,14 @@ public final class Justline {
         if (!Words.isCode(code)) {
             throw new IllegalArgumentException("code");
         }
-        int places = breaks.placesOf(code);
-        int signs = Words.signs(code);
+        int told = breaks.placesAt(breaks.find(code));
+        int places = told == NONE ? Words.rulePlaces(code) : told;
         answer.setLength(0);
-        for (int k = 0; k < signs; k++) {
+        for (int left = Words.signs(code) - 1, k = 0; left >= 0; left--, k++) {
             if (Words.isIn(k, places)) {
                 answer.append('-');
             }
-            answer.append(Words.letter(code, k));
+            answer.append(Words.letter(code, left));
         }
         return answer.toString();
     }
@@ -331,12 +331,16 @@ public final class Justline {
     }
 
     public String line(int paragraph, int nth) throws IndexOutOfBoundsException {
-        showLine(paragraph, nth);
+        Paragraph p = asked(paragraph);
+        settle();
+        showLine(p, nth);
         return shown.text.toString();
     }
 
     public String mirrored(int paragraph, int nth) throws IndexOutOfBoundsException {
-        showLine(paragraph, nth);
+        Paragraph p = asked(paragraph);
+        settle();
+        showLine(p, nth);
         answer.setLength(0);
         Words.copySigns(shown.text, 0, shown.text.length(), answer);
         answer.reverse();
@@ -347,13 +351,10 @@ public final class Justline {
             throws IndexOutOfBoundsException, IllegalArgumentException {
         Paragraph p = asked(paragraph);
         settle();
-        if (!isWithin(nth, 0, p.way.count - 1)) {
-            throw new IndexOutOfBoundsException("no such line");
-        }
+        showLine(p, nth);
         if (!isWithin(what, 0, 9)) {
             throw new IllegalArgumentException("what");
         }
-        shown.setOf(p, nth, rules.at(WIDTH), stops);
         return measure(p, nth, what);
     }
 
@@ -406,12 +407,16 @@ public final class Justline {
     }
 
     public String page(int page) throws IndexOutOfBoundsException {
-        showPage(page);
+        settle();
+        requirePage(page);
+        writePage(page);
         return sheet.text.toString();
     }
 
     public String pageLine(int page, int nth) throws IndexOutOfBoundsException {
-        showPage(page);
+        settle();
+        requirePage(page);
+        writePage(page);
         if (!isWithin(nth, 0, sheet.texts - 1)) {
             throw new IndexOutOfBoundsException("no such text");
         }
@@ -423,9 +428,7 @@ public final class Justline {
     public int ofPage(int page, int what)
             throws IndexOutOfBoundsException, IllegalArgumentException {
         settle();
-        if (!isWithin(page, 0, book.pageCount - 1)) {
-            throw new IndexOutOfBoundsException("no such page");
-        }
+        requirePage(page);
         if (!isWithin(what, 0, 6)) {
             throw new IllegalArgumentException("what");
         }
@@ -586,21 +589,17 @@ public final class Justline {
         }
     }
 
-    private void showLine(int paragraph, int nth) {
-        Paragraph p = asked(paragraph);
-        settle();
+    private void showLine(Paragraph p, int nth) {
         if (!isWithin(nth, 0, p.way.count - 1)) {
             throw new IndexOutOfBoundsException("no such line");
         }
         shown.setOf(p, nth, rules.at(WIDTH), stops);
     }
 
-    private void showPage(int page) {
-        settle();
+    private void requirePage(int page) {
         if (!isWithin(page, 0, book.pageCount - 1)) {
             throw new IndexOutOfBoundsException("no such page");
         }
-        writePage(page);
     }
 
     /** One of the numbers that ofLine tells, of the line that was set last. */
@@ -810,23 +809,19 @@ public final class Justline {
         boolean isSound = true;
         for (int i = 0; i < count && isSound; i++) {
             Paragraph p = slot(i);
-            isSound = isLeast(p);
+            isSound = p.way.badness <= p.fit.badness
+                    && (p.count == 0 || setter.leastBy(p, p.way.count) == p.way.badness);
             if (p.kind != TABBED) {
-                isSound = isSound && isTold(p) && isSameAnew(p) && isShared(p);
+                typeAnew(p);
+                setter.lay(copy, rules, breaks);
+                isSound = isSound && isSameAnew(p) && isShared(p);
             }
         }
         return isSound && areNotesThere() && arePagesGood();
     }
 
-    private boolean isLeast(Paragraph p) {
-        if (p.way.badness > p.fit.badness) {
-            return false;
-        }
-        return p.count == 0 || setter.leastBy(p, p.way.count) == p.way.badness;
-    }
-
-    /** Types anew into the copy what the lines show, and tells whether it is what the PARAGRAPH has. */
-    private boolean isTold(Paragraph p) {
+    /** Types into the copy what the lines show, with the NOTES at the same WORDS. */
+    private void typeAnew(Paragraph p) {
         copy.begin(p.kind, p.align, p.first, p.hang);
         copy.listAs(p.level, p.style);
         copy.number(p.nth);
@@ -835,11 +830,10 @@ public final class Justline {
             shown.setOf(p, n, rules.at(WIDTH), stops);
             code = readLine(n == 0 && p.kind == ITEM ? 3 * (p.level - 1) + p.marker.length() : 0, code);
         }
-        boolean isSame = code == 0 && copy.count == p.count;
         for (int w = 0; w < p.count; w++) {
-            isSame = isSame && copy.codes.at(w) == p.codes.at(w);
+            copy.noteFirsts.put(w, p.noteFirsts.at(w));
+            copy.noteOthers.put(w, p.noteOthers.at(w));
         }
-        return isSame;
     }
 
     /** Types the WORDS of the line into the copy; what is read of one that goes on in the next line. */
@@ -866,14 +860,12 @@ public final class Justline {
         return code;
     }
 
-    /** Whether the copy, with the NOTES of the PARAGRAPH, has the same lines. */
+    /** Whether the copy has the same WORDS and the same lines. */
     private boolean isSameAnew(Paragraph p) {
-        for (int w = 0; w < p.count; w++) {
-            copy.noteFirsts.put(w, p.noteFirsts.at(w));
-            copy.noteOthers.put(w, p.noteOthers.at(w));
+        boolean isSame = copy.count == p.count && copy.way.count == p.way.count;
+        for (int w = 0; w < p.count && isSame; w++) {
+            isSame = copy.codes.at(w) == p.codes.at(w);
         }
-        setter.lay(copy, rules, breaks);
-        boolean isSame = copy.way.count == p.way.count;
         for (int n = 0; n < p.way.count && isSame; n++) {
             shown.setOf(p, n, rules.at(WIDTH), stops);
             again.setOf(copy, n, rules.at(WIDTH), stops);
@@ -969,8 +961,6 @@ public final class Justline {
         private static final String SIGNS = "aeilmotw.";
         private static final String AHEAD = "aeio";
         private static final String BEHIND = "lmtw";
-        private static final String WIDEST = "mw";
-        private static final String WIDER = "aeo";
 
         static boolean isCode(int code) {
             return code >= 1 && code <= LAST_CODE;
@@ -986,9 +976,10 @@ public final class Justline {
             return signs;
         }
 
-        static char letter(int code, int place) {
+        /** The letter of the SIGN behind which some more are left. */
+        static char letter(int code, int left) {
             int rest = code;
-            for (int k = signs(code) - 1; k > place; k--) {
+            for (int k = 0; k < left; k++) {
                 rest = (rest - 1) / 9;
             }
             int sign = rest > 0 ? (rest - 1) % 9 : 0;
@@ -1005,21 +996,29 @@ public final class Justline {
         }
 
         static void write(int code, StringBuilder out) {
-            int signs = signs(code);
-            for (int k = 0; k < signs; k++) {
-                out.append(letter(code, k));
+            for (int left = signs(code) - 1; left >= 0; left--) {
+                out.append(letter(code, left));
             }
         }
 
         static int wide(char sign) {
-            return WIDEST.indexOf(sign) >= 0 ? 3 : WIDER.indexOf(sign) >= 0 ? 2 : 1;
+            switch (sign) {
+                case 'm':
+                case 'w':
+                    return 3;
+                case 'a':
+                case 'e':
+                case 'o':
+                    return 2;
+                default:
+                    return 1;
+            }
         }
 
         static int wideOf(int code) {
             int wide = 0;
-            int signs = signs(code);
-            for (int k = 0; k < signs; k++) {
-                wide += wide(letter(code, k));
+            for (int left = signs(code) - 1; left >= 0; left--) {
+                wide += wide(letter(code, left));
             }
             return wide;
         }
@@ -1040,10 +1039,10 @@ public final class Justline {
 
         static int rulePlaces(int code) {
             int places = 0;
-            int last = signs(code) - 2;
-            for (int k = 2; k <= last; k++) {
-                boolean isAhead = AHEAD.indexOf(letter(code, k - 1)) >= 0;
-                if (isAhead && BEHIND.indexOf(letter(code, k)) >= 0) {
+            int signs = signs(code);
+            for (int k = 2; k <= signs - 2; k++) {
+                boolean isAhead = AHEAD.indexOf(letter(code, signs - k)) >= 0;
+                if (isAhead && BEHIND.indexOf(letter(code, signs - k - 1)) >= 0) {
                     places |= 1 << k;
                 }
             }
@@ -1078,7 +1077,7 @@ public final class Justline {
         private final Row places = new Row(MOST_EXCEPTIONS);
         private int count;
 
-        private int find(int code) {
+        int find(int code) {
             for (int i = 0; i < count; i++) {
                 if (codes.at(i) == code) {
                     return i;
@@ -1087,14 +1086,9 @@ public final class Justline {
             return NONE;
         }
 
-        int told(int code) {
-            int i = find(code);
+        /** What the EXCEPTION found tells; NONE, if none was found. */
+        int placesAt(int i) {
             return i == NONE ? NONE : places.at(i);
-        }
-
-        int placesOf(int code) {
-            int i = find(code);
-            return i == NONE ? Words.rulePlaces(code) : places.at(i);
         }
 
         void tell(int code, int set) {
@@ -1130,6 +1124,7 @@ public final class Justline {
         private int nth;
         private int count;
         private int linesAhead;
+        private int markerWide;
         private final Row codes = new Row(MOST_WORDS);
         private final Row spaces = new Row(MOST_WORDS);
         private final Row noteFirsts = new Row(MOST_WORDS);
@@ -1205,22 +1200,29 @@ public final class Justline {
         void number(int newNth) {
             nth = newNth;
             marker.setLength(0);
-            if (nth <= 0 || kind != ITEM) {
-                return;
+            if (nth > 0 && kind == ITEM) {
+                writeMarker();
             }
+            markerWide = 0;
+            for (int k = 0; k < marker.length(); k++) {
+                markerWide += Words.wide(marker.charAt(k));
+            }
+        }
+
+        private void writeMarker() {
             if (style == 0) {
                 marker.append(nth);
             } else if (style == 1) {
                 marker.append((char) ('a' + nth - 1));
             } else {
-                writeRoman(nth);
+                writeRoman();
             }
             marker.append('.');
         }
 
-        private void writeRoman(int number) {
-            int tens = number / 10;
-            int ones = number % 10;
+        private void writeRoman() {
+            int tens = nth / 10;
+            int ones = nth % 10;
             for (int k = 0; k < tens; k++) {
                 marker.append('x');
             }
@@ -1244,10 +1246,7 @@ public final class Justline {
                 wide += 4;
             }
             if (kind == ITEM) {
-                wide += 3 * (level - 1) + 1;
-                for (int k = 0; k < marker.length(); k++) {
-                    wide += Words.wide(marker.charAt(k));
-                }
+                wide += 3 * (level - 1) + markerWide + 1;
             }
             return wide;
         }
@@ -1257,15 +1256,15 @@ public final class Justline {
         }
 
         int firstWord(int n) {
-            return pieces.owner(way.startOf(n));
+            return pieces.owners.at(way.starts.at(n));
         }
 
         int lastWord(int n) {
-            return pieces.owner(way.endOf(n) - 1);
+            return pieces.owners.at(way.ends.at(n) - 1);
         }
 
         boolean isBroken(int n) {
-            return pieces.isWithinWord(way.endOf(n));
+            return pieces.dashes.at(way.ends.at(n)) == 1;
         }
 
         /** The WORD behind the last one that ends in a line. */
@@ -1284,8 +1283,9 @@ public final class Justline {
     }
 
     /**
-     * All PIECES of a PARAGRAPH, each with where it would begin and end if all stood in one line.
-     * Of TABBED each WORD is one.
+     * All PIECES of a PARAGRAPH, each with where it would begin and end and have its first point if
+     * all stood in one line, and whether a line that ends ahead of it needs a dash. Of TABBED each
+     * WORD is one.
      */
     private static final class Pieces {
         private final StringBuilder signs = new StringBuilder();
@@ -1293,6 +1293,8 @@ public final class Justline {
         private final Row begins = new Row(MOST_PIECES + 1);
         private final Row lefts = new Row(MOST_PIECES + 1);
         private final Row rights = new Row(MOST_PIECES + 1);
+        private final Row dashes = new Row(MOST_PIECES + 1);
+        private final Row points = new Row(MOST_PIECES + 1);
         private int count;
         private int firstRoom;
         private int nextRoom;
@@ -1304,30 +1306,37 @@ public final class Justline {
             int x = 0;
             for (int w = 0; w < p.count; w++) {
                 int code = p.codes.at(w);
-                int places = p.kind == TABBED ? 0 : breaks.placesOf(code);
-                int many = Words.signs(code);
-                for (int k = 0; k < many; k++) {
+                int told = breaks.placesAt(breaks.find(code));
+                int places = p.kind == TABBED ? 0 : told == NONE ? Words.rulePlaces(code) : told;
+                x += w > 0 ? 1 : 0;
+                for (int left = Words.signs(code) - 1, k = 0; left >= 0; left--, k++) {
                     if (k == 0 || Words.isIn(k, places)) {
-                        open(w, k == 0 && w > 0 ? x + 1 : x);
-                        x = lefts.at(count - 1);
+                        open(w, x, k);
                     }
-                    x = widen(x, Words.letter(code, k));
+                    x = widen(x, Words.letter(code, left));
                 }
                 x = p.isNoted(w) ? widen(x, '*') : x;
             }
             begins.put(count, signs.length());
+            dashes.put(count, 0);
         }
 
-        private void open(int w, int x) {
+        private void open(int w, int x, int signsAhead) {
             owners.put(count, w);
             begins.put(count, signs.length());
             lefts.put(count, x);
+            dashes.put(count, signsAhead > 0 ? 1 : 0);
+            points.put(count, NONE);
             count++;
         }
 
         private int widen(int x, char sign) {
+            int last = count - 1;
+            if (sign == '.' && points.at(last) == NONE) {
+                points.put(last, x);
+            }
             signs.append(sign);
-            rights.put(count - 1, x + Words.wide(sign));
+            rights.put(last, x + Words.wide(sign));
             return x + Words.wide(sign);
         }
 
@@ -1337,17 +1346,8 @@ public final class Justline {
             cost = newCost;
         }
 
-        int owner(int i) {
-            return owners.at(i);
-        }
-
-        /** Whether a line that ends ahead of a PIECE ends within a WORD. */
-        boolean isWithinWord(int end) {
-            return end > 0 && end < count && owners.at(end) == owners.at(end - 1);
-        }
-
         int gap(int from, int end) {
-            int content = rights.at(end - 1) - lefts.at(from) + (isWithinWord(end) ? 1 : 0);
+            int content = rights.at(end - 1) - lefts.at(from) + dashes.at(end);
             return (from == 0 ? firstRoom : nextRoom) - content;
         }
 
@@ -1358,51 +1358,38 @@ public final class Justline {
         int badnessOf(int from, int end) {
             int gap = gap(from, end);
             int bad = end == count && gap >= 0 ? 0 : gap * gap;
-            bad += isWithinWord(end) ? cost : 0;
+            bad += dashes.at(end) * cost;
             return gap < 0 ? bad + 1000 : bad;
         }
 
-        /** WIDTH of what is ahead of the first point of some PIECES; of all without one. */
-        int aheadOfPoint(int from, int end) {
+        /** Where the first point of some PIECES stands; where they end without one. */
+        int pointOf(int from, int end) {
             for (int i = from; i < end; i++) {
-                int x = lefts.at(i) - lefts.at(from);
-                for (int k = begins.at(i); k < begins.at(i + 1); k++) {
-                    char sign = Words.signAt(signs, k);
-                    if (sign == '.') {
-                        return x;
-                    }
-                    x += Words.wide(sign);
+                if (points.at(i) != NONE) {
+                    return points.at(i);
                 }
             }
-            return rights.at(end - 1) - lefts.at(from);
+            return rights.at(end - 1);
         }
     }
 
-    /** A WAY: which PIECE each of its lines begins with. */
+    /** A WAY: with which PIECE each of its lines begins, and ahead of which one it ends. */
     private static final class Way {
-        private final Row starts = new Row(MOST_PIECES + 1);
+        private final Row starts = new Row(MOST_PIECES);
+        private final Row ends = new Row(MOST_PIECES);
         private int count;
-        private int end;
         private int badness;
 
-        void begin(int pieces) {
+        void begin() {
             count = 0;
-            end = pieces;
             badness = 0;
         }
 
-        void add(int start, int bad) {
+        void add(int start, int end, int bad) {
             starts.put(count, start);
+            ends.put(count, end);
             count++;
             badness += bad;
-        }
-
-        int startOf(int n) {
-            return starts.at(n);
-        }
-
-        int endOf(int n) {
-            return n + 1 < count ? starts.at(n + 1) : end;
         }
     }
 
@@ -1415,8 +1402,8 @@ public final class Justline {
             int told = rules.at(WIDTH);
             p.pieces.cut(p, breaks);
             p.pieces.fitInto(p.room(true, told), p.room(false, told), rules.at(BREAK_COST));
-            p.way.begin(p.pieces.count);
-            p.fit.begin(p.pieces.count);
+            p.way.begin();
+            p.fit.begin();
             if (p.kind == TABBED) {
                 findRows(p, p.way);
                 findRows(p, p.fit);
@@ -1427,9 +1414,11 @@ public final class Justline {
         }
 
         private void findRows(Paragraph p, Way way) {
+            int from = 0;
             for (int w = 0; w < p.count; w++) {
-                if (w == 0 || p.spaces.at(w - 1) == LINE_END) {
-                    way.add(w, 0);
+                if (w == p.count - 1 || p.spaces.at(w) == LINE_END) {
+                    way.add(from, w + 1, 0);
+                    from = w + 1;
                 }
             }
         }
@@ -1451,8 +1440,9 @@ public final class Justline {
             }
             int from = 0;
             for (int n = 0; n < count && from < count; n++) {
-                way.add(from, pieces.badnessOf(from, nexts.at(from)));
-                from = nexts.at(from);
+                int end = nexts.at(from);
+                way.add(from, end, pieces.badnessOf(from, end));
+                from = end;
             }
         }
 
@@ -1463,47 +1453,42 @@ public final class Justline {
                 while (end < pieces.count && pieces.isLet(from, end + 1)) {
                     end++;
                 }
-                way.add(from, pieces.badnessOf(from, end));
+                way.add(from, end, pieces.badnessOf(from, end));
                 from = end;
             }
         }
 
+        /** The least BADNESS of the WAYS with so many lines; NONE without one. */
         int leastBy(Paragraph p, int lines) {
             if (p.kind == TABBED) {
                 return p.way.count == lines ? 0 : NONE;
             }
-            if (lines < 1 || lines > p.pieces.count) {
+            int count = p.pieces.count;
+            if (lines < 1 || lines > count) {
                 return NONE;
             }
-            return leastWith(p.pieces, lines);
-        }
-
-        /** Ahead of each round least tells the BADNESS by one line less, from each PIECE on. */
-        private int leastWith(Pieces pieces, int lines) {
-            int count = pieces.count;
             for (int i = 0; i < count; i++) {
                 least.put(i, NONE);
             }
             least.put(count, 0);
             for (int n = 0; n < lines; n++) {
-                for (int i = 0; i < count; i++) {
-                    least.put(i, leastFrom(pieces, i));
-                }
-                least.put(count, NONE);
+                addLineAhead(p.pieces);
             }
             return least.at(0);
         }
 
-        private int leastFrom(Pieces pieces, int i) {
-            int best = NONE;
-            for (int j = i + 1; j <= pieces.count && pieces.isLet(i, j); j++) {
-                int rest = least.at(j);
-                if (rest != NONE) {
-                    int bad = pieces.badnessOf(i, j) + rest;
-                    best = best == NONE ? bad : Math.min(best, bad);
+        /** What least tells from each PIECE on becomes that by one line more. */
+        private void addLineAhead(Pieces pieces) {
+            for (int i = 0; i < pieces.count; i++) {
+                int best = NONE;
+                for (int j = i + 1; j <= pieces.count && pieces.isLet(i, j); j++) {
+                    int rest = least.at(j);
+                    int bad = rest == NONE ? NONE : rest + pieces.badnessOf(i, j);
+                    best = best == NONE || bad != NONE && bad < best ? bad : best;
                 }
+                least.put(i, best);
             }
-            return best;
+            least.put(pieces.count, NONE);
         }
     }
 
@@ -1521,10 +1506,10 @@ public final class Justline {
             rows = 0;
             wide = 0;
             if (p.kind == TABBED) {
-                setTabs(p, p.way.startOf(nth), p.way.endOf(nth), stops);
+                setTabs(p, p.way.starts.at(nth), p.way.ends.at(nth), stops);
                 gap = told - wide;
             } else {
-                gap = p.pieces.gap(p.way.startOf(nth), p.way.endOf(nth));
+                gap = p.pieces.gap(p.way.starts.at(nth), p.way.ends.at(nth));
                 indent(p, nth == 0);
                 setPieces(p, nth);
             }
@@ -1548,22 +1533,22 @@ public final class Justline {
 
         private void setPieces(Paragraph p, int nth) {
             Pieces pieces = p.pieces;
-            int from = p.way.startOf(nth);
-            int end = p.way.endOf(nth);
-            int joints = pieces.owner(end - 1) - pieces.owner(from);
+            int from = p.way.starts.at(nth);
+            int end = p.way.ends.at(nth);
+            int joints = pieces.owners.at(end - 1) - pieces.owners.at(from);
             boolean isShared = p.align == BOTH && nth + 1 < p.way.count && gap > 0 && joints > 0;
             int each = isShared && joints > 0 ? gap / joints : 0;
             int over = isShared && joints > 0 ? gap % joints : 0;
             int joint = 0;
             for (int i = from; i < end; i++) {
-                if (i > from && pieces.owner(i) != pieces.owner(i - 1)) {
+                if (i > from && pieces.dashes.at(i) == 0) {
                     boolean isMore = nth % 2 == 0 ? joint < over : joint >= joints - over;
                     row(1 + each + (isMore ? 1 : 0));
                     joint++;
                 }
                 signs(pieces.signs, pieces.begins.at(i), pieces.begins.at(i + 1));
             }
-            if (pieces.isWithinWord(end)) {
+            if (pieces.dashes.at(end) == 1) {
                 text.append('-');
                 wide++;
             }
@@ -1578,7 +1563,9 @@ public final class Justline {
                     while (behind < end && p.spaces.at(behind - 1) != TAB) {
                         behind++;
                     }
-                    row(beginOf(pieces, w, behind, stops) - wide);
+                    int left = pieces.lefts.at(w);
+                    int point = pieces.pointOf(w, behind) - left;
+                    row(beginOf(pieces.rights.at(behind - 1) - left, point, stops) - wide);
                 } else if (w > from) {
                     row(1);
                 }
@@ -1586,7 +1573,8 @@ public final class Justline {
             }
         }
 
-        private int beginOf(Pieces pieces, int from, int end, Row stops) {
+        /** Where a FIELD begins that is so wide, with so much ahead of its point. */
+        private int beginOf(int field, int point, Row stops) {
             int x = wide + 1;
             while (x <= LAST_STOP && stops.at(x) == 0) {
                 x++;
@@ -1594,12 +1582,11 @@ public final class Justline {
             if (x > LAST_STOP) {
                 return wide + 1;
             }
-            int field = pieces.rights.at(end - 1) - pieces.lefts.at(from);
             int begin = x;
             switch (stops.at(x) - 1) {
                 case STOP_RIGHT: begin = x - field; break;
                 case STOP_MIDDLE: begin = x - field / 2; break;
-                case STOP_POINT: begin = x - pieces.aheadOfPoint(from, end); break;
+                case STOP_POINT: begin = x - point; break;
                 default: break;
             }
             return Math.max(begin, wide + 1);
