@@ -39,6 +39,25 @@ final class Check {
         same(what, outcome(call), "throws.IllegalStateException");
     }
 
+    /** A call that has to throw the exception and to leave all as it was. */
+    void refused(Justline t, String due, String what, Call call) {
+        String before = Texts.state(t);
+        same(what, outcome(call), "throws." + due);
+        same(what + " changes nothing", Texts.state(t), before);
+    }
+
+    void index(Justline t, String what, Call call) {
+        refused(t, "IndexOutOfBoundsException", what, call);
+    }
+
+    void argument(Justline t, String what, Call call) {
+        refused(t, "IllegalArgumentException", what, call);
+    }
+
+    void state(Justline t, String what, Call call) {
+        refused(t, "IllegalStateException", what, call);
+    }
+
     /** The answer as a text, or the very class that was thrown. */
     static String outcome(Call call) {
         try {
