@@ -136,8 +136,17 @@ public final class PagesTest {
         CHECK.same("of one before", t.pageLine(3, 0), W + " ".repeat(5) + "4");
         t.paragraph(0, 0, 0, 0);
         Texts.type(t, 5, Texts.times(24, W));
+        CHECK.same("one digit", t.pageLine(8, 0), W + " ".repeat(5) + "9");
         CHECK.same("two digits", t.pageLine(9, 0), W + " ".repeat(4) + "10");
         CHECK.same("as wide as told", t.width(Texts.code(W)) + 4 + 2, 24);
+        Justline u = text(0, 5);
+        u.set(4, 1);
+        u.paragraph(3, 0, 0, 0);
+        Texts.type(u, 1, "male");
+        CHECK.same("not that of the next page", u.pageLine(0, 0), " ".repeat(23) + "1");
+        CHECK.same("on its page", u.page(1), "male" + " ".repeat(15) + "2|male");
+        u.move(1, 0);
+        CHECK.same("the very first line", u.pageLine(0, 0), "male" + " ".repeat(15) + "1");
     }
 
     private static void notes() {

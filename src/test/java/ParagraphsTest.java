@@ -43,6 +43,9 @@ public final class ParagraphsTest {
         Texts.type(u, 1, "a");
         CHECK.same("a HEAD has no FIRST", u.line(0, 0), " ".repeat(11) + "t");
         CHECK.same("pages", u.page(0), " ".repeat(11) + "t||a");
+        u.paragraph(3, 0, 6, 6);
+        Texts.type(u, 2, "wwww wwwww");
+        CHECK.same("nor HANG", Texts.lines(u, 2), "wwww|wwwww");
     }
 
     private static void item() {
@@ -184,6 +187,7 @@ public final class ParagraphsTest {
         CHECK.same("the one behind", t.typed(1), "i i i ");
         CHECK.same("a new one is empty", t.paragraph(0, 0, 0, 0), 2);
         CHECK.same("of words", t.typed(2), "");
+        CHECK.same("of lines", t.lines(2), 0);
         CHECK.same("drop the first", t.drop(0), 1);
         CHECK.same("drop the last", t.drop(1), 0);
         CHECK.same("drop the last but none", t.drop(0), 3);
@@ -204,6 +208,8 @@ public final class ParagraphsTest {
         CHECK.same("order", order(t), "m a i l e ");
         CHECK.same("next", t.move(0, 1), 2);
         CHECK.same("order", order(t), "a m i l e ");
+        CHECK.same("from the first to the last", t.move(0, 4), 5);
+        CHECK.same("order", order(t), "m i l e a ");
         int[][] wrong = {{5, 0}, {0, 5}, {-1, 0}, {0, -1}, {5, 5}, {Integer.MAX_VALUE, Integer.MIN_VALUE}};
         for (int[] w : wrong) {
             CHECK.index(t, "move " + w[0] + " " + w[1], () -> t.move(w[0], w[1]));

@@ -106,6 +106,16 @@ public final class WholeTest {
         t.stop(20, 1);
         t.type(2, 1, 0);
         CHECK.same("kept", t.digest(), byHand(t));
+        t.stop(19, 2);
+        t.stop(21, 2);
+        t.set(4, 1);
+        for (int i = 3; i < 8; i++) {
+            t.paragraph(0, 2, i - 3, 0);
+            t.sow(i, 1, 7381, 24);
+        }
+        CHECK.holds("all columns differ", t.even(1) > t.even(2) && t.even(2) > t.even(3));
+        CHECK.holds("some pages differ", t.changed().length() > 3);
+        CHECK.same("many pages", t.digest(), byHand(t));
         CHECK.same("twice", t.digest(), byHand(t));
     }
 }

@@ -31,6 +31,8 @@ public final class WordsTest {
         CHECK.same("last", t.word(0, 2), "malate");
         CHECK.same("none", t.word(0, 3), "");
         CHECK.same("far away", t.word(0, Integer.MAX_VALUE), "");
+        t.rub(0, 1);
+        CHECK.same("one that was rubbed", t.word(0, 2), "");
         CHECK.argument(t, "below 0", () -> t.word(0, -1));
         CHECK.index(t, "no paragraph", () -> t.word(1, -1));
         CHECK.index(t, "no paragraph", () -> t.word(-1, 0));

@@ -1,0 +1,119 @@
+/** The edges of size: as many paragraphs, words, pieces, lines, exceptions and pages as can be. */
+public final class BigTest {
+    private static final Check CHECK = new Check("BigTest");
+    private static final int W = Texts.code("wwwwww");
+
+    public static void main(String[] args) {
+        manyPages();
+        likeModel();
+        wideTabs();
+        manyExceptions();
+        CHECK.end();
+    }
+
+    private static void manyPages() {
+        Justline t = new Justline();
+        t.set(0, 24);
+        t.set(1, 6);
+        t.set(2, 0);
+        t.set(4, 1);
+        t.exception(W, 62);
+        for (int i = 0; i < 12; i++) {
+            t.paragraph(1, 2, 6, 6);
+            t.sow(i, W - 1, 0, 24);
+        }
+        // room 10: each word is "www-" and "www"
+        CHECK.same("lines", t.lines(0), 48);
+        CHECK.same("badness", t.badness(0, false), 23);
+        CHECK.same("all lines", t.house(2), 576);
+        CHECK.same("within a word", t.house(9), 288);
+        CHECK.same("pages", t.pages(), 120);
+        CHECK.same("the hundredth", t.pageLine(99, 0), " ".repeat(21) + "100");
+        CHECK.same("the last but one of two digits", t.pageLine(98, 0), " ".repeat(22) + "99");
+        CHECK.same("index", t.index(W).split(" ").length, 120);
+        CHECK.same("keep", t.keep(), 120);
+        CHECK.same("nothing changed", t.changed(), "");
+        // two paragraphs, an empty line between, and the line ahead
+        CHECK.same("even", t.even(6), 98);
+        CHECK.same("one column", t.even(1), 1 + 576 + 11);
+        CHECK.holds("99 lines", t.would(0, 99) > 23);
+        CHECK.same("48 lines", t.would(0, 48), 23);
+        CHECK.same("47 lines", t.would(0, 47), -1);
+        CHECK.holds("sound", t.isSound());
+        t.set(2, 99);
+        CHECK.same("as many lines at any cost", t.lines(0), 48);
+    }
+
+    private static void likeModel() {
+        for (int round = 0; round < 6; round++) {
+            Justline t = new Justline();
+            Model m = new Model();
+            int wide = 24 + 7 * round;
+            CHECK.same("set", t.set(0, wide), m.set(0, wide));
+            CHECK.same("set", t.set(2, 19 * round), m.set(2, 19 * round));
+            CHECK.same("set", t.set(4, 1), m.set(4, 1));
+            for (int i = 0; i < 12; i++) {
+                int kind = (i + round) % 4;
+                if (i % 5 == 4) {
+                    CHECK.same("item", t.item(3, 2, i % 4), m.item(3, 2, i % 4));
+                } else {
+                    CHECK.same("paragraph", t.paragraph(kind, i % 4, 6, i % 7), m.paragraph(kind, i % 4, 6, i % 7));
+                }
+                int from = 66430 + 40000 * i + round;
+                CHECK.same("sow", t.sow(i, from, 1 + round * 9, 24), m.sow(i, from, 1 + round * 9, 24));
+                for (int w = 0; w < 24; w += 1 + round % 2) {
+                    int code = 1 + (from + w * (1 + round * 9)) % 597870;
+                    CHECK.same("exception", t.exception(code, 62), m.exception(code, 62));
+                }
+                CHECK.same("note", t.note(i, 23, W, W), m.note(i, 23, W, W));
+            }
+            CHECK.same("digest", t.digest(), m.digest());
+            for (int n = 0; n < m.pages(); n++) {
+                CHECK.same("page", t.page(n), m.page(n));
+            }
+            for (int lines = 1; lines <= 99; lines += 7) {
+                CHECK.same("would " + lines, t.would(round, lines), m.would(round, lines));
+            }
+        }
+    }
+
+    private static void wideTabs() {
+        for (int kind = -1; kind <= 3; kind++) {
+            Justline t = new Justline();
+            Model m = new Model();
+            for (int i = 0; i < 3; i++) {
+                t.paragraph(2, 0, 0, 0);
+                m.paragraph(2, 0, 0, 0);
+                for (int w = 0; w < 24; w++) {
+                    int space = (i + w) % (i + 1) == 0 ? 1 : 0;
+                    t.type(i, W, w % 8 == 7 && i == 2 ? 2 : space);
+                    m.type(i, W, w % 8 == 7 && i == 2 ? 2 : space);
+                }
+                t.note(i, 23, 1, -1);
+                m.note(i, 23, 1, -1);
+            }
+            for (int x = 1; x <= 59; x += 2) {
+                t.stop(x, kind);
+                m.stop(x, kind);
+            }
+            // 24 words of 18, an asterisk, and a blank ahead of each but the first one
+            CHECK.same("width", t.ofLine(0, 0, 0), m.ofLine(0, 0, 0));
+            CHECK.same("blanks", t.ofLine(0, 0, 5), 23);
+            CHECK.same("digest", t.digest(), m.digest());
+        }
+    }
+
+    private static void manyExceptions() {
+        Justline t = new Justline();
+        for (int n = 0; n < 512; n++) {
+            CHECK.same("exception", t.exception(597870 - n, 2 * (n % 32)), -1);
+        }
+        CHECK.same("all of them", t.house(5), 512);
+        CHECK.same("the last one", t.dashed(597870 - 511),
+            String.join("-", Model.text(597870 - 511).split("")));
+        for (int n = 0; n < 512; n++) {
+            CHECK.same("told", t.exception(597870 - n, -1), 2 * (n % 32));
+        }
+        CHECK.same("none", t.house(5), 0);
+    }
+}
