@@ -183,8 +183,13 @@ public final class LinesTest {
         u.stop(2, 0);
         CHECK.same("a stop has to be greater", u.line(0, 4), "a ttttt");
         u.stop(3, 0);
+        u.stop(20, 0);
         CHECK.same("by one", u.line(0, 4), "a ttttt");
         u.stop(3, -1);
+        u.stop(20, -1);
+        u.stop(59, 0);
+        CHECK.same("the last place", u.line(0, 4), "a" + " ".repeat(57) + "ttttt");
+        u.stop(59, -1);
         u.stop(4, 0);
         CHECK.same("by two", u.line(0, 4), "a  ttttt");
     }
@@ -235,6 +240,14 @@ public final class LinesTest {
             CHECK.same("tabs, " + k, v.ofLine(0, 0, k), tabs[k]);
         }
         CHECK.same("first word of the next", v.ofLine(0, 1, 1), 3);
+        v.stop(20, 1);
+        v.stop(30, 0);
+        Texts.type(v, 0, "a/ a> a a> a> tttt> t");
+        // 8 blanks to 10; "a" ends at 20 and has 3 ahead; 10 to 30; none of the stops is behind tttt
+        CHECK.same("some blanks", v.line(0, 2), "a" + " ".repeat(8) + "a a   a" + " ".repeat(10) + "tttt t");
+        CHECK.same("how many", v.ofLine(0, 2, 5), 5);
+        CHECK.same("the widest of them", v.ofLine(0, 2, 6), 10);
+        CHECK.same("the narrowest of them", v.ofLine(0, 2, 7), 1);
         Justline w = Texts.plain(24, Texts.LEFT, 0, 0, Texts.times(14, "wwwwww"));
         CHECK.same("page", w.ofLine(0, 11, 8), 0);
         w.set(1, 6);

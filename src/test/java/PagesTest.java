@@ -198,6 +198,7 @@ public final class PagesTest {
         CHECK.index(t, "page -1", () -> t.ofPage(-1, 0));
         Justline u = text(0, 8);
         CHECK.same("number of its first line", u.ofPage(1, 4), 6);
+        CHECK.same("texts with empty lines", text(2, 2, 2).ofPage(0, 6), 6);
         u.set(4, 1);
         CHECK.same("texts with the line ahead", u.ofPage(1, 6), 4);
         CHECK.same("lines with the line ahead", u.ofPage(0, 0), 5);
