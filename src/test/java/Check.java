@@ -39,11 +39,11 @@ final class Check {
         same(what, outcome(call), "throws.IllegalStateException");
     }
 
-    /** A call that has to throw the exception and to leave all as it was. */
+    /** A call that has to throw the exception and to leave all as it was; RefusedTest looks closer. */
     void refused(Justline t, String due, String what, Call call) {
-        String before = Texts.state(t);
+        String before = Texts.brief(t);
         same(what, outcome(call), "throws." + due);
-        same(what + " changes nothing", Texts.state(t), before);
+        same(what + " changes nothing", Texts.brief(t), before);
     }
 
     void index(Justline t, String what, Call call) {

@@ -43,7 +43,12 @@ final class Texts {
         return all.toString();
     }
 
-    /** All that a wrong call could have changed. */
+    /** What shows most changes in two calls: an object has 512 of them. */
+    static String brief(Justline t) {
+        return t.digest() + " " + t.changed();
+    }
+
+    /** All that one can ask of a small text without a change. */
     static String state(Justline t) {
         StringBuilder all = new StringBuilder();
         all.append(t.digest()).append(' ').append(t.changed());
