@@ -103,17 +103,32 @@ public final class BigTest {
         }
     }
 
+    /** As many as all calls of an object but a few can tell. */
     private static void manyExceptions() {
         Justline t = new Justline();
-        for (int n = 0; n < 512; n++) {
+        for (int n = 0; n < 508; n++) {
             CHECK.same("exception", t.exception(597870 - n, 2 * (n % 32)), -1);
         }
-        CHECK.same("all of them", t.house(5), 512);
-        CHECK.same("the last one", t.dashed(597870 - 511),
-            String.join("-", Model.text(597870 - 511).split("")));
-        for (int n = 0; n < 512; n++) {
-            CHECK.same("told", t.exception(597870 - n, -1), 2 * (n % 32));
+        CHECK.same("all of them", t.house(5), 508);
+        CHECK.same("the first one", t.dashed(597870), "......");
+        CHECK.same("the last one", t.dashed(597870 - 507), dashed(597870 - 507, 2 * (507 % 32)));
+        CHECK.same("and no more: by the rule", t.dashed(597870 - 508), "...i-tm");
+        Justline u = new Justline();
+        for (int n = 0; n < 255; n++) {
+            u.exception(597870 - n, 2 * (n % 32));
         }
-        CHECK.same("none", t.house(5), 0);
+        for (int n = 0; n < 255; n++) {
+            CHECK.same("told", u.exception(597870 - n, -1), 2 * (n % 32));
+        }
+        CHECK.same("none", u.house(5), 0);
+    }
+
+    private static String dashed(int code, int places) {
+        String text = Model.text(code);
+        StringBuilder all = new StringBuilder();
+        for (int p = 0; p < text.length(); p++) {
+            all.append((places >> p & 1) == 1 ? "-" : "").append(text.charAt(p));
+        }
+        return all.toString();
     }
 }

@@ -414,7 +414,7 @@ public final class BooksTest {
         CHECK.same("60 wide", t.pageLine(0, 0), ahead("", 59, "1"));
         t.set(0, 25);
         CHECK.same("25 wide", t.pageLine(11, 0), ahead("", 23, "12"));
-        // each line with a NOTE of two lines: a page takes few of them
+        // each WORD in two lines, and five of these on a page
         Justline u = text();
         u.set(4, 1);
         for (int i = 0; i < 12; i++) {
@@ -426,6 +426,8 @@ public final class BooksTest {
         CHECK.same("many pages", u.pages() > 100, true);
         CHECK.same("page 99", u.pageLine(98, 0), ahead("", 22, "99"));
         CHECK.same("page 100", u.pageLine(99, 0), ahead("", 21, "100"));
+        CHECK.same("page 101", u.pageLine(100, 0), ahead("", 21, "101"));
+        CHECK.same("the last page", u.pageLine(u.pages() - 1, 0), ahead("", 21, "" + u.pages()));
     }
 
     /** pageLine(): each text of a page, with the line ahead, empty ones and NOTES; none beyond. */

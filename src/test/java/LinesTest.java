@@ -17,6 +17,11 @@ public final class LinesTest {
         rivers();
         marker();
         nearest();
+        mirroredOfAll();
+        wordsOfLines();
+        endsWithinAWord();
+        pageOfALine();
+        notesOfALine();
         CHECK.end();
     }
 
@@ -411,5 +416,100 @@ public final class LinesTest {
         CHECK.argument(t, "-1", () -> t.nearest(-1, true));
         CHECK.argument(t, "61", () -> t.nearest(61, false));
         CHECK.argument(t, "far", () -> t.nearest(Integer.MAX_VALUE, false));
+    }
+
+    /** "from the last sign to the first one": blanks ahead become blanks behind, in each kind of line. */
+    private static void mirroredOfAll() {
+        Justline t = new Justline();
+        t.set(0, 24);
+        t.paragraph(0, Texts.RIGHT, 0, 0);
+        Texts.type(t, 0, "a");
+        CHECK.same("one sign", t.mirrored(0, 0), "a" + " ".repeat(22));
+        t.paragraph(2, 0, 0, 0);
+        t.stop(9, 0);
+        Texts.type(t, 1, "tom> wit/ .");
+        t.note(1, 0, 1, -1);
+        CHECK.same("TABBED", t.mirrored(1, 0), "tiw  *mot");
+        CHECK.same("a point", t.mirrored(1, 1), ".");
+        t.item(2, 2, 0);
+        Texts.type(t, 2, "aeilmo");
+        CHECK.same("an ITEM", t.mirrored(2, 0), "omliea .i   ");
+        t.paragraph(0, Texts.BOTH, 2, 0);
+        Texts.type(t, 3, "tttttt wwo malate");
+        for (int i = 0; i < 4; i++) {
+            for (int n = 0; n < t.lines(i); n++) {
+                CHECK.same("line " + n + " of " + i, t.mirrored(i, n), new StringBuilder(t.line(i, n)).reverse().toString());
+            }
+        }
+    }
+
+    /** ofLine 1 and 2: "(of which it has a PIECE)": a WORD broken in three is in three lines. */
+    private static void wordsOfLines() {
+        Justline t = new Justline();
+        t.set(0, 24);
+        t.paragraph(1, 0, 6, 6);
+        Texts.type(t, 0, "t wwwwww t t");
+        t.exception(Texts.code("wwwwww"), (1 << 2) + (1 << 4));
+        // room 10: two PIECES of the WORD are 12 wide, and more with a dash
+        CHECK.same("lines", Texts.lines(t, 0).replace(" ".repeat(10), ""), "t ww-|ww-|ww t t");
+        int[][] due = {{0, 1}, {1, 1}, {1, 3}};
+        for (int n = 0; n < 3; n++) {
+            CHECK.same("first word of " + n, t.ofLine(0, n, 1), due[n][0]);
+            CHECK.same("last word of " + n, t.ofLine(0, n, 2), due[n][1]);
+        }
+        Justline u = Texts.plain(60, Texts.LEFT, 0, 0, Texts.times(24, "t"));
+        CHECK.same("all 24 in one", u.ofLine(0, 0, 1) * 100 + u.ofLine(0, 0, 2), 23);
+    }
+
+    /** ofLine 4: 1 if it ends within a WORD, 0 if a WORD ends just there, 0 for the last line. */
+    private static void endsWithinAWord() {
+        Justline t = Texts.plain(24, Texts.LEFT, 0, 0, "tttttt tttttt malate wwwwww wwwwww");
+        CHECK.same("lines", Texts.lines(t, 0), "tttttt tttttt mala-|te wwwwww|wwwwww");
+        CHECK.same("within", t.ofLine(0, 0, 4), 1);
+        CHECK.same("with a WORD that began before", t.ofLine(0, 1, 4), 0);
+        CHECK.same("the last line", t.ofLine(0, 2, 4), 0);
+        CHECK.same("house", t.house(9), 1);
+        t.exception(Texts.code("malate"), 0);
+        CHECK.same("no place", t.ofLine(0, 0, 4) + t.house(9), 0);
+    }
+
+    /** ofLine 8: the last line of a page and the first one of the next. */
+    private static void pageOfALine() {
+        Justline t = Texts.plain(24, Texts.LEFT, 0, 0, Texts.times(24, "wwwwww"));
+        t.set(1, 6);
+        int[] ends = {6, 12, 18, 24};
+        for (int n = 0; n < 24; n++) {
+            int page = 0;
+            while (n >= ends[page]) {
+                page++;
+            }
+            CHECK.same("page of line " + n, t.ofLine(0, n, 8), page);
+        }
+        t.paragraph(0, 0, 0, 0);
+        t.type(1, 1, 0);
+        CHECK.same("of another PARAGRAPH", t.ofLine(1, 0, 8), 4);
+        t.move(1, 0);
+        CHECK.same("ahead", t.ofLine(0, 0, 8), 0);
+        // an empty line and four lines behind it
+        CHECK.same("pushed over", t.ofLine(1, 3, 8) * 10 + t.ofLine(1, 4, 8), 1);
+    }
+
+    /** ofLine 9: none, one, or both of a PARAGRAPH, each in the line where its WORD ends. */
+    private static void notesOfALine() {
+        Justline t = Texts.plain(24, Texts.LEFT, 0, 0, "a e malate wwwwww");
+        CHECK.same("none", t.ofLine(0, 0, 9), 0);
+        t.note(0, 1, 1, 2);
+        CHECK.same("one", t.ofLine(0, 0, 9), 1);
+        t.note(0, 0, 1, -1);
+        CHECK.same("two", t.ofLine(0, 0, 9), 2);
+        CHECK.same("none in the other", t.ofLine(0, 1, 9), 0);
+        CHECK.same("by rising WORDS", t.pageLine(0, 10) + t.pageLine(0, 11), "* a* a e");
+        t.retype(0, 1, Texts.code("wwwwww"));
+        t.retype(0, 0, Texts.code("ttttta"));
+        CHECK.same("each its line", t.ofLine(0, 0, 9) * 10 + t.ofLine(0, 1, 9), 11);
+        t.drop(0);
+        t.item(1, 0, 0);
+        t.type(0, 1, 0);
+        CHECK.same("no NOTE of the one that was dropped", t.ofLine(0, 0, 9), 0);
     }
 }

@@ -15,6 +15,7 @@ public final class PagesTest {
         notePage();
         even();
         changed();
+        pagesOfNotes();
         CHECK.end();
     }
 
@@ -289,5 +290,28 @@ public final class PagesTest {
         t.set(4, 0);
         t.note(0, 6, 1, -1);
         CHECK.same("a note", t.changed(), "1");
+    }
+
+    /** notePage(): of each WORD its page, or NONE; with its line it goes over, and away with its WORD. */
+    private static void pagesOfNotes() {
+        Justline t = text(0, 24);
+        t.note(0, 5, 1, -1);
+        // the sixth line and its NOTE are one too many; then the page takes five
+        for (int w = 0; w < 24; w++) {
+            CHECK.same("word " + w, t.notePage(0, w), w == 5 ? 1 : -1);
+        }
+        CHECK.same("the line goes over", t.ofLine(0, 5, 8), 1);
+        t.note(0, 23, 1, -1);
+        CHECK.same("the last one", t.notePage(0, 23), t.pages() - 1);
+        t.rub(0, 1);
+        CHECK.index(t, "rubbed", () -> t.notePage(0, 23));
+        t.sow(0, 0, 0, 1);
+        CHECK.same("a new one has none", t.notePage(0, 23), -1);
+        t.paragraph(0, 0, 0, 0);
+        CHECK.index(t, "without WORDS", () -> t.notePage(1, 0));
+        t.move(1, 0);
+        CHECK.same("of another number", t.notePage(1, 5), 1);
+        t.set(1, 24);
+        CHECK.same("of higher pages", t.notePage(1, 5), 0);
     }
 }

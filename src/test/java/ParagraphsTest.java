@@ -13,6 +13,12 @@ public final class ParagraphsTest {
         note();
         drop();
         move();
+        sowEdges();
+        rubEdges();
+        retypeAll();
+        noteEnds();
+        dropEach();
+        moveEach();
         CHECK.end();
     }
 
@@ -213,6 +219,138 @@ public final class ParagraphsTest {
         int[][] wrong = {{5, 0}, {0, 5}, {-1, 0}, {0, -1}, {5, 5}, {Integer.MAX_VALUE, Integer.MIN_VALUE}};
         for (int[] w : wrong) {
             CHECK.index(t, "move " + w[0] + " " + w[1], () -> t.move(w[0], w[1]));
+        }
+    }
+
+    private static Justline sown(int from, int step, int many) {
+        Justline t = new Justline();
+        t.paragraph(2, 0, 0, 0);
+        CHECK.same("sown", t.sow(0, from, step, many), many);
+        return t;
+    }
+
+    /** "1 + (from + k * step) modulo 597870": to its last one, just around, and around many times. */
+    private static void sowEdges() {
+        CHECK.same("the first code", sown(0, 0, 1).typed(0), "a ");
+        CHECK.same("the last code", sown(LAST - 1, 0, 1).typed(0), "...... ");
+        CHECK.same("to the last one", sown(LAST - 2, 1, 2).typed(0), ".....w ...... ");
+        CHECK.same("around to the first one", sown(LAST - 2, 1, 3).typed(0), ".....w ...... a ");
+        CHECK.same("a step to just around", sown(8, LAST - 8, 2).typed(0), ". a ");
+        CHECK.same("a step to the last one", sown(8, LAST - 9, 2).typed(0), ". ...... ");
+        CHECK.same("the greatest step is one back", sown(8, LAST - 1, 4).typed(0), ". w t o ");
+        CHECK.same("back around", sown(1, LAST - 1, 4).typed(0), "e a ...... .....w ");
+        Justline t = sown(LAST - 1, LAST - 1, 24);
+        CHECK.same("24 at the greatest", t.word(0, 23), Model.text(LAST - 23));
+        Justline u = sown(1, 300000, 24);
+        for (int k = 0; k < 24; k++) {
+            CHECK.same("word " + k, u.word(0, k), Model.text((int) (1 + (1 + k * 300000L) % LAST)));
+        }
+        CHECK.same("a blank behind each", u.lines(0), 1);
+        CHECK.same("and no tab", sown(0, 1, 3).typed(0), "a e i ");
+        for (int there = 20; there <= 24; there++) {
+            Justline v = new Justline();
+            v.paragraph(0, 0, 0, 0);
+            for (int w = 0; w < there; w++) {
+                v.type(0, 1, 0);
+            }
+            CHECK.same("4 more than " + there, v.sow(0, 1, 0, 4), Math.min(4, 24 - there));
+            CHECK.same("those beyond 24 are left out", v.house(1), 24);
+        }
+    }
+
+    /** "(all, if there are fewer)": one less than there are, as many, one more. */
+    private static void rubEdges() {
+        for (int many = 1; many <= 24; many++) {
+            Justline t = new Justline();
+            t.paragraph(0, 0, 0, 0);
+            t.sow(0, 0, 1, 10);
+            t.note(0, 9, 1, -1);
+            t.note(0, 0, 1, -1);
+            CHECK.same("rub " + many, t.rub(0, many), Math.max(0, 10 - many));
+            CHECK.same("with their NOTES", t.house(4), many < 10 ? 1 : 0);
+            StringBuilder due = new StringBuilder();
+            for (int k = 0; k < 10 - many; k++) {
+                due.append(Model.text(k + 1)).append(' ');
+            }
+            CHECK.same("the last ones", t.typed(0), due.toString());
+        }
+        CHECK.same("all of 24", sown(0, 0, 24).rub(0, 24), 0);
+        CHECK.same("all but one of 24", sown(0, 0, 24).rub(0, 23), 1);
+        CHECK.same("one of 24", sown(0, 0, 24).rub(0, 1), 23);
+    }
+
+    /** Each WORD of 24 with each SPACE, the first and the last ones with NOTES. */
+    private static void retypeAll() {
+        Justline t = new Justline();
+        t.paragraph(2, 0, 0, 0);
+        StringBuilder due = new StringBuilder();
+        for (int w = 0; w < 24; w++) {
+            t.type(0, w + 1, w % 3);
+        }
+        t.note(0, 0, 3, 4);
+        t.note(0, 23, 5, -1);
+        for (int w = 0; w < 24; w++) {
+            CHECK.same("the one before", t.retype(0, w, LAST - w), Model.text(w + 1));
+            due.append(Model.text(LAST - w)).append(" >/".charAt(w % 3));
+        }
+        CHECK.same("SPACES stay", t.typed(0), due.toString());
+        CHECK.same("NOTES stay", t.house(4), 2);
+        CHECK.same("of the first one", t.line(0, 0).substring(0, 7), "......*");
+        CHECK.same("of the last one", t.ofLine(0, t.lines(0) - 1, 9), 1);
+        CHECK.index(t, "the 25th", () -> t.retype(0, 24, 1));
+    }
+
+    /** The bounds of both WORDS of a NOTE, and what of them shows. */
+    private static void noteEnds() {
+        int[][] words = {{1, -1}, {LAST, -1}, {1, 1}, {1, LAST}, {LAST, 1}, {LAST, LAST}};
+        for (int[] w : words) {
+            Justline t = Texts.plain(40, Texts.LEFT, 0, 0, "a");
+            CHECK.same("note", t.note(0, 0, w[0], w[1]), 1);
+            CHECK.same("its line", t.pageLine(0, 11),
+                "* " + Model.text(w[0]) + (w[1] == -1 ? "" : " " + Model.text(w[1])));
+        }
+        Justline u = new Justline();
+        u.paragraph(0, 0, 0, 0);
+        CHECK.index(u, "no WORD yet", () -> u.note(0, 0, 1, -1));
+        u.sow(0, 0, 0, 24);
+        CHECK.same("the last of 24", u.note(0, 23, 1, -1), 1);
+        CHECK.index(u, "the 25th", () -> u.note(0, 24, 1, -1));
+        CHECK.same("the first of 24", u.note(0, 0, 1, -1), 2);
+    }
+
+    /** "those behind it get numbers less by 1": each of 12. */
+    private static void dropEach() {
+        for (int dropped = 0; dropped < 12; dropped++) {
+            Justline t = new Justline();
+            StringBuilder due = new StringBuilder();
+            for (int i = 0; i < 12; i++) {
+                t.paragraph(0, 0, 0, 0);
+                t.sow(i, i, 0, i + 1);
+                due.append(i == dropped ? "" : t.typed(i));
+            }
+            CHECK.same("drop " + dropped, t.drop(dropped), dropped + 1);
+            CHECK.same("the others", order(t), due.toString());
+            CHECK.index(t, "the twelfth", () -> t.typed(11));
+            CHECK.same("room for one", t.paragraph(0, 0, 0, 0), 11);
+            CHECK.same("which is empty", t.typed(11), "");
+        }
+    }
+
+    /** From each number to each one of 12: "how many PARAGRAPHS got another number by that". */
+    private static void moveEach() {
+        for (int from = 0; from < 12; from++) {
+            for (int to = 0; to < 12; to++) {
+                Justline t = new Justline();
+                java.util.List<String> due = new java.util.ArrayList<>();
+                for (int i = 0; i < 12; i++) {
+                    t.paragraph(0, 0, 0, 0);
+                    t.type(i, 10 + i, 0);
+                    due.add(t.typed(i));
+                }
+                due.add(to, due.remove(from));
+                CHECK.same("move " + from + " " + to, t.move(from, to), from == to ? 0 : Math.abs(to - from) + 1);
+                CHECK.same("order", order(t), String.join("", due));
+            }
         }
     }
 

@@ -9,6 +9,9 @@ public final class SettingsTest {
         stop();
         keep();
         knock();
+        allKnocks();
+        eachSetting();
+        keepsTexts();
         CHECK.end();
     }
 
@@ -90,6 +93,9 @@ public final class SettingsTest {
             CHECK.same("many", u.exception(Texts.code("aaaa") + n, 2), -1);
         }
         CHECK.same("many", u.house(5), 401);
+        CHECK.same("the first of them", u.exception(Texts.code("malate"), -1), 2);
+        CHECK.same("the last of them", u.exception(Texts.code("aaaa") + 399, -1), 2);
+        CHECK.same("two less", u.house(5), 399);
     }
 
     private static void stop() {
@@ -135,5 +141,58 @@ public final class SettingsTest {
             CHECK.same("house", t.house(8), n);
         }
         CHECK.same("nothing else", t.house(0) + t.pages(), 0);
+    }
+
+    /** All the calls that an object is used for. */
+    private static void allKnocks() {
+        Justline t = new Justline();
+        for (int n = 1; n <= 511; n++) {
+            CHECK.same("knock " + n, t.knock(), n);
+        }
+        CHECK.same("house", t.house(8), 511);
+        Justline u = new Justline();
+        CHECK.same("of each object", u.knock() + u.knock(), 3);
+        CHECK.argument(u, "a refused call does not knock", () -> u.house(10));
+        CHECK.same("the third", u.knock(), 3);
+    }
+
+    /** Each of the values that may be told, answered by the next call. */
+    private static void eachSetting() {
+        int[][] limits = {{24, 60}, {6, 24}, {0, 99}, {0, 2}, {0, 1}};
+        int[] before = {40, 12, 9, 1, 0};
+        Justline t = Texts.plain(40, Texts.LEFT, 0, 0, "a malate wwwwww");
+        for (int what = 0; what < 5; what++) {
+            int last = before[what];
+            for (int value = limits[what][0]; value <= limits[what][1]; value++) {
+                CHECK.same("set " + what + " to " + value, t.set(what, value), last);
+                last = value;
+            }
+            CHECK.same("the same again", t.set(what, last), last);
+        }
+        CHECK.same("all at their most", t.page(0), " ".repeat(59) + "1|a malate wwwwww");
+    }
+
+    /** "the texts of all pages as they are now": as texts, with what stands ahead and at the foot. */
+    private static void keepsTexts() {
+        Justline t = Texts.plain(24, Texts.LEFT, 0, 0, "wwwwww wwwwww");
+        t.set(1, 6);
+        CHECK.same("one page", t.keep(), 1);
+        t.note(0, 1, 1, -1);
+        CHECK.same("a NOTE", t.changed(), "0");
+        CHECK.same("kept with it", t.keep(), 1);
+        CHECK.same("as it is", t.changed(), "");
+        t.set(1, 7);
+        CHECK.same("one empty line more", t.changed(), "0");
+        t.set(1, 6);
+        CHECK.same("as it was", t.changed(), "");
+        t.set(4, 1);
+        t.keep();
+        t.set(4, 0);
+        CHECK.same("the line ahead", t.changed(), "0");
+        t.drop(0);
+        CHECK.same("none there", t.changed(), "0");
+        CHECK.same("none kept", t.keep(), 0);
+        CHECK.same("none", t.changed(), "");
+        CHECK.same("twice", t.keep(), 0);
     }
 }

@@ -1,10 +1,18 @@
+import java.math.BigInteger;
+import java.util.ArrayList;
+import java.util.List;
+import java.util.function.Supplier;
+
 /** Promises 38 to 40: all of it. */
 public final class WholeTest {
     private static final Check CHECK = new Check("WholeTest");
 
     public static void main(String[] args) {
         house();
+        houseCounts();
+        fullHouse();
         isSound();
+        soundOfEdges();
         digest();
         CHECK.end();
     }
@@ -64,58 +72,183 @@ public final class WholeTest {
         }
     }
 
-    /** From the answers of all the other calls, in the order that is told. */
-    private static long byHand(Justline t) {
-        long d = 6007;
+    /** Texts at the edges of what isSound() tells: each of them holds. */
+    private static void soundOfEdges() {
+        String[] words = {"a", "wwwwww wwwwww", "malate malate malate malate", "...... ...... .", "t.t .a m.", "ttttta tttt a t"};
+        for (int kind = 0; kind <= 4; kind++) {
+            for (int align = 0; align <= 3; align++) {
+                Justline t = new Justline();
+                t.set(0, 24);
+                t.set(1, 6);
+                t.set(4, 1);
+                t.exception(Texts.code("malate"), 62);
+                t.exception(Texts.code("......"), 62);
+                for (int i = 0; i < words.length; i++) {
+                    if (kind == 4) {
+                        t.item(1 + i % 3, i % 3, align);
+                    } else {
+                        t.paragraph(kind, align, i, 6 - i);
+                    }
+                    CHECK.same("without WORDS", t.isSound(), true);
+                    Texts.type(t, i, words[i]);
+                    CHECK.same("with WORDS", t.isSound(), true);
+                    t.note(i, 0, 1, -1);
+                    CHECK.same("with a NOTE", t.isSound(), true);
+                }
+                t.move(0, 5);
+                t.drop(2);
+                CHECK.same("moved and dropped", t.isSound(), true);
+                t.set(0, 60);
+                CHECK.same("60 wide", t.isSound(), true);
+            }
+        }
+    }
+
+    /** A text that grows by the stages of its making. */
+    private static Justline text(int stage) {
+        Justline t = text();
+        if (stage > 0) {
+            t.keep();
+            t.stop(20, 1);
+            t.type(2, 1, 0);
+        }
+        if (stage > 1) {
+            t.stop(19, 2);
+            t.stop(21, 2);
+            t.set(4, 1);
+            for (int i = 3; i < 8; i++) {
+                t.paragraph(0, 2, i - 3, 0);
+                t.sow(i, 1, 7381, 24);
+            }
+        }
+        return t;
+    }
+
+    /** The numbers that are told, in their order, from the answers of all the other calls. */
+    private static List<Integer> numbers(Supplier<Justline> maker) {
+        List<Integer> all = new ArrayList<>();
+        Justline t = maker.get();
         for (int k = 0; k <= 9; k++) {
-            d = d * 31 + t.house(k);
+            all.add(t.house(k));
         }
         for (int i = 0; i < t.house(0); i++) {
-            int[] of = {t.lines(i), t.badness(i, false), t.badness(i, true), t.fits(i), t.would(i, 2), t.rivers(i),
-                t.marker(i).length()};
-            for (int v : of) {
-                d = d * 31 + v;
-            }
-            for (int n = 0; n < t.lines(i); n++) {
+            // an object for each PARAGRAPH: it is used for 512 calls
+            Justline u = maker.get();
+            all.addAll(List.of(u.lines(i), u.badness(i, false), u.badness(i, true), u.fits(i), u.would(i, 2),
+                u.rivers(i), u.marker(i).length()));
+            for (int n = 0; n < u.lines(i); n++) {
                 for (int k = 0; k <= 9; k++) {
-                    d = d * 31 + t.ofLine(i, n, k);
+                    all.add(u.ofLine(i, n, k));
                 }
-                d = d * 31 + t.line(i, n).length();
+                all.add(u.line(i, n).length());
             }
         }
-        d = d * 31 + t.pages();
+        all.add(t.pages());
         for (int n = 0; n < t.pages(); n++) {
             for (int k = 0; k <= 6; k++) {
-                d = d * 31 + t.ofPage(n, k);
+                all.add(t.ofPage(n, k));
             }
-            d = d * 31 + t.page(n).length();
+            all.add(t.page(n).length());
         }
-        int[] last = {t.index(1).length(), t.changed().length(), t.even(2), t.nearest(20, true), t.nearest(20, false),
-            t.isSound() ? 1 : 0};
-        for (int v : last) {
-            d = d * 31 + v;
+        all.addAll(List.of(t.index(1).length(), t.changed().length(), t.even(2), t.nearest(20, true),
+            t.nearest(20, false), t.isSound() ? 1 : 0));
+        return all;
+    }
+
+    /** "d becomes d * 31 + v, which wraps around as a 64-bit integer": with numbers that do not wrap around. */
+    private static long wrapped(List<Integer> numbers) {
+        BigInteger d = BigInteger.valueOf(6007);
+        for (int v : numbers) {
+            d = d.multiply(BigInteger.valueOf(31)).add(BigInteger.valueOf(v));
         }
-        return d;
+        return d.longValue();
     }
 
     private static void digest() {
-        CHECK.same("nothing", new Justline().digest(), -2519076919233629371L);
-        Justline t = text();
-        CHECK.same("some", t.digest(), byHand(t));
-        t.keep();
-        t.stop(20, 1);
-        t.type(2, 1, 0);
-        CHECK.same("kept", t.digest(), byHand(t));
-        t.stop(19, 2);
-        t.stop(21, 2);
-        t.set(4, 1);
-        for (int i = 3; i < 8; i++) {
-            t.paragraph(0, 2, i - 3, 0);
-            t.sow(i, 1, 7381, 24);
+        List<Integer> nothing = new ArrayList<>(java.util.Collections.nCopies(11, 0));
+        nothing.addAll(List.of(0, 1, 6, -1, -1, 1));
+        CHECK.same("the numbers of nothing", numbers(Justline::new), nothing);
+        CHECK.same("nothing", new Justline().digest(), wrapped(nothing));
+        CHECK.same("nothing, as it is", new Justline().digest(), -2519076919233629371L);
+        for (int stage = 0; stage <= 2; stage++) {
+            int made = stage;
+            CHECK.same("stage " + stage, text(stage).digest(), wrapped(numbers(() -> text(made))));
         }
+        Justline t = text(2);
         CHECK.holds("all columns differ", t.even(1) > t.even(2) && t.even(2) > t.even(3));
         CHECK.holds("some pages differ", t.changed().length() > 3);
-        CHECK.same("many pages", t.digest(), byHand(t));
-        CHECK.same("twice", t.digest(), byHand(t));
+        CHECK.same("twice", t.digest(), t.digest());
+        t.knock();
+        CHECK.holds("a knock counts", t.digest() != text(2).digest());
+        Justline u = text(2);
+        u.keep();
+        CHECK.holds("what was kept counts", u.digest() != text(2).digest());
+        u.keep();
+        CHECK.same("but not how often", u.digest(), kept(text(2)).digest());
+    }
+
+    private static Justline kept(Justline t) {
+        t.keep();
+        return t;
+    }
+
+    /** Each number of the house: 0, and one more or less by one call. */
+    private static void houseCounts() {
+        Justline t = new Justline();
+        t.set(0, 24);
+        t.paragraph(1, 0, 6, 6);
+        CHECK.same("a PARAGRAPH", house(t), "1 0 0 0 0 0 0 0 0 0");
+        t.type(0, Texts.code("wwww"), 0);
+        // room 10, 12 wide: the last line is TOO WIDE by 2
+        CHECK.same("a WORD, a line TOO WIDE", house(t), "1 1 1 1 0 0 0 1004 0 0");
+        t.note(0, 0, 1, -1);
+        CHECK.same("a NOTE", house(t), "1 1 1 1 1 0 0 1009 0 0");
+        t.exception(Texts.code("wwww"), 1 << 2);
+        // "ww-" has a gap of 3, and ends within a WORD
+        CHECK.same("an EXCEPTION", house(t), "1 1 2 0 1 1 0 " + (9 + 9) + " 0 1");
+        t.stop(30, 0);
+        CHECK.same("a STOP", house(t), "1 1 2 0 1 1 1 18 0 1");
+        t.knock();
+        CHECK.same("a knock", house(t), "1 1 2 0 1 1 1 18 1 1");
+        t.rub(0, 1);
+        CHECK.same("rubbed", house(t), "1 0 0 0 0 1 1 0 1 0");
+        t.stop(30, -1);
+        t.exception(Texts.code("wwww"), -1);
+        CHECK.same("no STOP, no EXCEPTION", house(t), "1 0 0 0 0 0 0 0 1 0");
+        t.drop(0);
+        CHECK.same("no PARAGRAPH", house(t), "0 0 0 0 0 0 0 0 1 0");
+    }
+
+    private static String house(Justline t) {
+        StringBuilder all = new StringBuilder();
+        for (int what = 0; what <= 9; what++) {
+            all.append(what > 0 ? " " : "").append(t.house(what));
+        }
+        return all.toString();
+    }
+
+    /** As much as can be: 12 PARAGRAPHS of 24 WORDS, 2 NOTES each, 59 STOPS. */
+    private static void fullHouse() {
+        Justline t = new Justline();
+        t.set(0, 24);
+        t.set(1, 6);
+        int wide = Texts.code("wwwwww");
+        for (int i = 0; i < 12; i++) {
+            t.paragraph(1, 2, 6, 6);
+            t.sow(i, wide - 1, 0, 24);
+            t.note(i, 11, wide, wide);
+            t.note(i, 12, wide, wide);
+        }
+        for (int x = 1; x <= 59; x++) {
+            t.stop(x, 3);
+        }
+        // room 10: each WORD is 18 wide, two of each 24 have an asterisk
+        int bad = 12 * (22 * 1064 + 2 * 1081);
+        CHECK.same("full", house(t), "12 288 288 288 24 0 59 " + bad + " 0 0");
+        CHECK.same("sound", t.isSound(), true);
+        t.exception(wide, 1 << 3);
+        // "www-" is just as wide, "www" 1 less, "www*" just as wide
+        CHECK.same("all broken", house(t), "12 288 576 0 24 1 59 " + 12 * (24 * 9 + 24 - 2 - 1) + " 0 288");
+        CHECK.same("sound", t.isSound(), true);
     }
 }
