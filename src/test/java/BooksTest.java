@@ -399,6 +399,15 @@ public final class BooksTest {
         CHECK.same("nothing would stay", u.ofPage(1, 5), 1);
         u.set(4, 0);
         CHECK.same("off", u.pageLine(0, 0), W);
+        // no other KIND has its WORD ahead of a page
+        Justline v = new Justline();
+        v.set(4, 1);
+        head(v, 1);
+        for (int kind = 0; kind <= 4; kind++) {
+            int i = kind == 4 ? v.item(1, 0, 0) : v.paragraph(kind, 0, 0, 0);
+            v.type(i, kind == 3 ? 7 : 1, 0);
+            CHECK.same("kind " + kind, v.pageLine(0, 0), kind < 3 ? ahead(W, 21, "1") : ahead("t", 38, "1"));
+        }
     }
 
     /** "the number of the page, counted from 1, so that all is as wide as told". */
@@ -533,6 +542,19 @@ public final class BooksTest {
         CHECK.same("both gone", t.changed(), "0 1");
         t.keep();
         CHECK.same("what was kept before is gone", t.changed(), "");
+        Justline v = text(12);
+        v.retype(0, 5, Texts.code("wwwww"));
+        v.keep();
+        v.retype(0, 5, WIDE);
+        CHECK.same("one sign more, as that of the next page", v.changed(), "0");
+        v.keep();
+        v.retype(0, 0, Texts.code("mwwwww"));
+        CHECK.same("the very first sign", v.changed(), "0");
+        v.retype(0, 0, WIDE);
+        v.retype(0, 11, Texts.code("wwwwwm"));
+        CHECK.same("the very last sign", v.changed(), "1");
+        v.retype(0, 11, Texts.code("wwwww"));
+        CHECK.same("one sign less", v.changed(), "1");
         Justline u = text(24, 24, 24);
         u.keep();
         u.set(4, 1);

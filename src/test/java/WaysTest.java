@@ -230,6 +230,20 @@ public final class WaysTest {
         Justline u = Texts.plain(24, Texts.LEFT, 0, 0, Texts.times(24, "wwwwww"));
         u.exception(Texts.code("wwwwww"), 62);
         CHECK.holds("99 lines of 144 pieces", u.would(0, 99) > u.badness(0, false));
+        Justline v = new Justline();
+        v.set(0, 24);
+        v.paragraph(1, 2, 6, 6);
+        v.sow(0, Texts.code("wwwwww") - 1, 0, 24);
+        v.exception(Texts.code("wwwwww"), 62);
+        v.note(0, 23, 1, -1);
+        // room 10: 144 PIECES, "www-" and "www" of each WORD, at last "www*"
+        CHECK.same("lines of 144 pieces", Texts.lines(v, 0).replace(" ", ""), ("www-|www|").repeat(23) + "www-|www*");
+        CHECK.same("their badness", v.badness(0, false), 24 * 9 + 23);
+        CHECK.same("as first fit", v.badness(0, true), 24 * 9 + 23);
+        CHECK.same("as many lines", v.fits(0) * 100 + v.lines(0), 4848);
+        CHECK.same("by 48", v.would(0, 48), 24 * 9 + 23);
+        CHECK.same("not by 47", v.would(0, 47), -1);
+        CHECK.same("the last WORD", v.ofLine(0, 47, 1) * 100 + v.ofLine(0, 47, 2), 2323);
         CHECK.same("one word", Texts.plain(24, 0, 0, 0, "t").would(0, 1), 0);
         CHECK.same("not in two", Texts.plain(24, 0, 0, 0, "t").would(0, 2), -1);
     }
@@ -422,6 +436,17 @@ public final class WaysTest {
         CHECK.same("interrupted", rivers(2, 2, 3, 2, 2), 0);
         CHECK.same("and again", rivers(2, 2, 3, 2, 2, 2), 1);
         CHECK.same("two of them", rivers(2, 2, 2, 4, 4, 4), 2);
+        Justline t = new Justline();
+        t.paragraph(2, 0, 0, 0);
+        Texts.type(t, 0, "t a/ t a/ t a/ t a/");
+        CHECK.same("asked once", t.rivers(0), 2);
+        CHECK.same("asked twice", t.rivers(0), 2);
+        t.rub(0, 2);
+        CHECK.same("one line less", t.rivers(0), 1);
+        t.rub(0, 2);
+        CHECK.same("two lines less", t.rivers(0), 0);
+        t.rub(0, 4);
+        CHECK.same("none any more", t.rivers(0), 0);
         CHECK.same("all of twelve", rivers(6, 6, 6, 6, 6, 6, 6, 6, 6, 6, 6, 6), 10);
     }
 

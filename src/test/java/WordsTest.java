@@ -33,6 +33,11 @@ public final class WordsTest {
         CHECK.same("far away", t.word(0, Integer.MAX_VALUE), "");
         t.rub(0, 1);
         CHECK.same("one that was rubbed", t.word(0, 2), "");
+        t.rub(0, 1);
+        CHECK.same("two that were rubbed", t.word(0, 1) + t.word(0, 2), "");
+        t.rub(0, 1);
+        CHECK.same("all were rubbed", t.word(0, 0) + t.word(0, 1) + t.word(0, 2) + t.typed(0), "");
+        Texts.type(t, 0, "e i l");
         CHECK.argument(t, "below 0", () -> t.word(0, -1));
         CHECK.index(t, "no paragraph", () -> t.word(1, -1));
         CHECK.index(t, "no paragraph", () -> t.word(-1, 0));
