@@ -7,6 +7,8 @@ public final class BigTest {
         manyPages();
         likeModel();
         wideTabs();
+        mostLines();
+        farRivers();
         manyExceptions();
         CHECK.end();
     }
@@ -101,6 +103,54 @@ public final class BigTest {
             CHECK.same("blanks", t.ofLine(0, 0, 5), 23);
             CHECK.same("digest", t.digest(), m.digest());
         }
+    }
+
+    /** Three lines for each of 288 WORDS, and four lines of NOTES for each PARAGRAPH. */
+    private static void mostLines() {
+        Justline t = new Justline();
+        t.set(0, 24);
+        t.set(1, 6);
+        t.set(3, 2);
+        t.set(4, 1);
+        t.exception(W, (1 << 2) + (1 << 4));
+        for (int i = 0; i < 12; i++) {
+            t.paragraph(1, i % 4, 6, 6);
+            t.sow(i, W - 1, 0, 24);
+            t.note(i, 0, W, W);
+            t.note(i, 23, W, W);
+        }
+        // room 10: "ww-" 7, "ww-" 7, "ww" 6, and 7 with an asterisk; with the next PIECE it is 13 or more
+        CHECK.same("lines", t.house(2), 864);
+        CHECK.same("within a WORD", t.house(9), 576);
+        CHECK.same("the last one, MIDDLE", t.line(11, 71), " ".repeat(10 + 3 / 2) + "ww*");
+        CHECK.same("badness", t.badness(0, false), 48 * (9 + 9) + 22 * 16 + 9);
+        CHECK.same("first fit", t.badness(0, true) * 100 + t.fits(0), t.badness(0, false) * 100 + 72);
+        CHECK.same("by 72", t.would(0, 72), t.badness(0, false));
+        CHECK.same("not by 71", t.would(0, 71), -1);
+        CHECK.same("nor by 73", t.would(0, 73), -1);
+        // a line ahead, all lines, two empty ones between, and 24 NOTES of two lines
+        CHECK.same("one column", t.even(1), 1 + 864 + 22 + 48);
+        CHECK.same("its last page", t.ofLine(11, 71, 8), t.pages() - 1);
+        CHECK.same("all kept", t.keep(), t.pages());
+        CHECK.same("as kept", t.changed(), "");
+        t.retype(11, 23, W - 1);
+        CHECK.same("the last WORD is another one", t.changed().split(" ")[0], "" + t.notePage(11, 23));
+        CHECK.holds("sound", t.isSound());
+    }
+
+    /** RIVERS far to the right: of lines that are TABBED there is no bound but their WORDS. */
+    private static void farRivers() {
+        Justline t = new Justline();
+        t.paragraph(2, 0, 0, 0);
+        for (int w = 0; w < 24; w++) {
+            t.type(0, W, w % 8 == 7 ? 2 : 0);
+        }
+        // seven blanks a line, the last one behind 7 * 18 + 6
+        CHECK.same("seven of three lines", t.rivers(0), 7);
+        t.retype(0, 0, W - 1);
+        CHECK.same("one sign narrower: none", t.rivers(0), 0);
+        t.retype(0, 1, Texts.code("mmmmmm"));
+        CHECK.same("as wide, but another one", t.rivers(0), 0);
     }
 
     /** As many as all calls of an object but a few can tell. */

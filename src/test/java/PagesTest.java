@@ -12,6 +12,7 @@ public final class PagesTest {
         notes();
         pageLine();
         ofPage();
+        linesOfNotes();
         notePage();
         even();
         changed();
@@ -203,6 +204,23 @@ public final class PagesTest {
         u.set(4, 1);
         CHECK.same("texts with the line ahead", u.ofPage(1, 6), 4);
         CHECK.same("lines with the line ahead", u.ofPage(0, 0), 5);
+    }
+
+    /** ofPage(.., 1): lines of NOTES, not how many NOTES: with "a" behind "wwwwww" it is one line of 23. */
+    private static void linesOfNotes() {
+        int wide = Texts.code(W);
+        int[][] others = {{-1, -1}, {1, -1}, {wide, -1}, {wide, 1}, {wide, wide}};
+        int[] due = {2, 2, 3, 3, 4};
+        for (int k = 0; k < others.length; k++) {
+            Justline t = text(0, 2);
+            CHECK.same("none", t.ofPage(0, 1), 0);
+            t.note(0, 0, wide, others[k][0]);
+            CHECK.same("of the first", t.ofPage(0, 1), others[k][0] == wide ? 2 : 1);
+            t.note(0, 1, wide, others[k][1]);
+            CHECK.same("of both", t.ofPage(0, 1), due[k]);
+            CHECK.same("all texts", t.ofPage(0, 6), 6);
+            CHECK.same("NOTES", t.house(4), 2);
+        }
     }
 
     private static void notePage() {

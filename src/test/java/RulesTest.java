@@ -1,3 +1,5 @@
+import java.io.DataInputStream;
+import java.io.IOException;
 import java.lang.reflect.Field;
 import java.lang.reflect.Method;
 import java.lang.reflect.Modifier;
@@ -59,9 +61,30 @@ public final class RulesTest {
         "instanceof", "record ", "interface ", "import ", "package ", "Exact", "double", "float", "System.", "String[]",
         "Object", "static {", "equals(", "hashCode", "+ \"", "\" +", "@"};
 
+    /** Rules 4 and 6: what the class calls of the library, as its compiled files name it. */
+    private static final Set<String> LIBRARY = Set.of("java/lang/Object.<init>()V",
+        "java/lang/String.charAt(I)C", "java/lang/String.indexOf(I)I", "java/lang/String.length()I",
+        "java/lang/String.isEmpty()Z", "java/lang/String.equals(Ljava/lang/Object;)Z",
+        "java/lang/String.substring(I)Ljava/lang/String;", "java/lang/String.substring(II)Ljava/lang/String;",
+        "java/lang/StringBuilder.<init>()V", "java/lang/StringBuilder.append(C)Ljava/lang/StringBuilder;",
+        "java/lang/StringBuilder.append(I)Ljava/lang/StringBuilder;",
+        "java/lang/StringBuilder.append(Ljava/lang/String;)Ljava/lang/StringBuilder;",
+        "java/lang/StringBuilder.charAt(I)C", "java/lang/StringBuilder.setCharAt(IC)V",
+        "java/lang/StringBuilder.setLength(I)V", "java/lang/StringBuilder.length()I",
+        "java/lang/StringBuilder.deleteCharAt(I)Ljava/lang/StringBuilder;",
+        "java/lang/StringBuilder.reverse()Ljava/lang/StringBuilder;",
+        "java/lang/StringBuilder.toString()Ljava/lang/String;",
+        "java/lang/Math.abs(I)I", "java/lang/Math.max(II)I", "java/lang/Math.min(II)I",
+        "java/lang/IllegalArgumentException.<init>(Ljava/lang/String;)V",
+        "java/lang/IllegalStateException.<init>(Ljava/lang/String;)V",
+        "java/lang/IndexOutOfBoundsException.<init>(Ljava/lang/String;)V");
+
     public static void main(String[] args) throws Exception {
         face();
         classes();
+        for (Class<?> inside : all()) {
+            library(inside);
+        }
         source(Files.readString(Path.of(args.length > 0 ? args[0] : ".", "src/main/java/Justline.java")));
         CHECK.end();
     }
@@ -124,6 +147,38 @@ public final class RulesTest {
             int modifiers = inside.getModifiers();
             CHECK.holds(inside + " is static", inside == Justline.class || Modifier.isStatic(modifiers));
             CHECK.holds(inside + " is private", inside == Justline.class || Modifier.isPrivate(modifiers));
+        }
+    }
+
+    /** Reads the table of names at the head of a compiled file: each method that is called stands there. */
+    private static void library(Class<?> inside) throws IOException {
+        try (DataInputStream in = new DataInputStream(
+                Justline.class.getResourceAsStream(inside.getName() + ".class"))) {
+            in.readLong();
+            int many = in.readUnsignedShort();
+            String[] texts = new String[many];
+            int[][] pairs = new int[many][];
+            List<int[]> called = new ArrayList<>();
+            for (int n = 1; n < many; n++) {
+                int tag = in.readUnsignedByte();
+                switch (tag) {
+                    case 1: texts[n] = in.readUTF(); break;
+                    case 3: case 4: in.readInt(); break;
+                    case 5: case 6: in.readLong(); n++; break;
+                    case 7: case 8: case 16: case 19: case 20: pairs[n] = new int[] {in.readUnsignedShort()}; break;
+                    case 15: in.readUnsignedByte(); in.readUnsignedShort(); break;
+                    default: pairs[n] = new int[] {in.readUnsignedShort(), in.readUnsignedShort()}; break;
+                }
+                if (tag >= 9 && tag <= 11) {
+                    called.add(pairs[n]);
+                }
+                CHECK.holds(inside + " makes no lambda and joins no texts by +", tag < 15 || tag > 18);
+            }
+            for (int[] call : called) {
+                String owner = texts[pairs[call[0]][0]];
+                String name = owner + "." + texts[pairs[call[1]][0]] + texts[pairs[call[1]][1]];
+                CHECK.holds(inside + " uses " + name, owner.startsWith("Justline") || LIBRARY.contains(name));
+            }
         }
     }
 

@@ -10,6 +10,7 @@ public final class WholeTest {
     public static void main(String[] args) {
         house();
         houseCounts();
+        houseOfTheWay();
         fullHouse();
         isSound();
         soundOfEdges();
@@ -121,6 +122,11 @@ public final class WholeTest {
                 t.sow(i, 1, 7381, 24);
             }
         }
+        if (stage > 2) {
+            otherThanFirstFit(t);
+            t.item(1, 1, 0);
+            t.type(9, 1, 0);
+        }
         return t;
     }
 
@@ -170,10 +176,13 @@ public final class WholeTest {
         CHECK.same("the numbers of nothing", numbers(Justline::new), nothing);
         CHECK.same("nothing", new Justline().digest(), wrapped(nothing));
         CHECK.same("nothing, as it is", new Justline().digest(), -2519076919233629371L);
-        for (int stage = 0; stage <= 2; stage++) {
+        for (int stage = 0; stage <= 3; stage++) {
             int made = stage;
             CHECK.same("stage " + stage, text(stage).digest(), wrapped(numbers(() -> text(made))));
         }
+        Justline s = text(3);
+        CHECK.holds("THE WAY and FIRST FIT differ", s.fits(8) != s.lines(8) && s.badness(8, true) != s.badness(8, false));
+        CHECK.same("a MARKER wider than its signs", s.marker(9) + " " + s.ofLine(9, 0, 0), "a. 6");
         Justline t = text(2);
         CHECK.holds("all columns differ", t.even(1) > t.even(2) && t.even(2) > t.even(3));
         CHECK.holds("some pages differ", t.changed().length() > 3);
@@ -217,6 +226,27 @@ public final class WholeTest {
         CHECK.same("no STOP, no EXCEPTION", house(t), "1 0 0 0 0 0 0 0 1 0");
         t.drop(0);
         CHECK.same("no PARAGRAPH", house(t), "0 0 0 0 0 0 0 0 1 0");
+    }
+
+    /** Lines, BADNESS and lines within a WORD are those of THE WAY, where FIRST FIT has others. */
+    private static void houseOfTheWay() {
+        Justline t = otherThanFirstFit(new Justline());
+        CHECK.same("THE WAY", Texts.lines(t, 0), "wwwwww|a twwwww|wwo");
+        CHECK.same("FIRST FIT", t.fits(0) * 1000 + t.badness(0, true), 2099);
+        CHECK.same("of THE WAY", house(t), "1 4 3 0 0 1 0 61 0 0");
+        Justline u = Texts.plain(24, Texts.LEFT, 0, 0, "wwwwww ii i wwww iiii wwwwww");
+        CHECK.same("as many lines, but worse", u.fits(0) * 1000 + u.badness(0, true), 3050);
+        CHECK.same("of THE WAY, too", house(u), "1 6 3 0 0 0 0 34 0 0");
+    }
+
+    /** A first PARAGRAPH of which FIRST FIT has one line less, which ends within a WORD. */
+    private static Justline otherThanFirstFit(Justline t) {
+        t.set(0, 24);
+        t.set(2, 99);
+        t.exception(Texts.code("twwwww"), 1 << 1);
+        int p = t.paragraph(0, 0, 0, 0);
+        Texts.type(t, p, "wwwwww a twwwww wwo");
+        return t;
     }
 
     private static String house(Justline t) {
